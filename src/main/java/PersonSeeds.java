@@ -233,10 +233,10 @@ public final class PersonSeeds {
 
     private void tryDoor(int p, int here, int goal) {
         int door = doors.towards(here, goal);
-        if (door == NONE) {
+        int next = door == NONE ? NONE : doors.behind(door, here);
+        if (next == NONE) {
             return;
         }
-        int next = doors.behind(door, here);
         if (!rooms.hasSpace(next) || !doors.isFree(door)) {
             persons.waits[p]++;
             return;

@@ -20,6 +20,7 @@ public final class PersonSeedsPromises {
         promise6Whole();
         promise7Person();
         walkOfOnePerson();
+        longestWalk();
         leastDoorIsTheOnlyOne();
         doorLetsWidthThrough();
         doorCountsBothWays();
@@ -411,6 +412,36 @@ public final class PersonSeedsPromises {
         dueThrough(walkUntil(seed, 5), 0, 1, 1, 0);
         due("16 entered(true)", () -> whole.entered(true), 1);
         due("16 entered(false)", () -> whole.entered(false), 1);
+    }
+
+    /** Twelve rooms in a row, the desk at one end and the table at the other: the most moves there can be. */
+    private static void longestWalk() {
+        long seed = seedWith(s -> desk(s, 0, 12) == 11 && eatsIn(s, 0, 12) == 0);
+        PersonSeeds x = house(seed, 1, 1, 1, 1, 1, 1, 1, 1, 1, 1, 1, 1);
+        for (int i = 0; i < 11; i++) {
+            x.door(i, i + 1, 1);
+        }
+        x.arrives(0, 1);
+        int leaves = leaves(seed, 0, 0);
+        due("6 all minutes but the last", () -> {
+            runTo(x, 0, leaves + 11);
+            return x.at(0);
+        }, 0);
+        due("6 it goes out", () -> x.run(1), 0);
+        for (int i = 0; i < 12; i++) {
+            int step = i;
+            due("9 on the way to its desk", () -> x.was(0, step), step);
+            due("9 on the way to eat", () -> x.was(0, eatsFrom(seed, 0, 0) + step), Math.max(10 - step, 0));
+            due("9 on the way back", () -> x.was(0, eatsUntil(seed, 0, 0) + step), Math.min(step + 1, 11));
+            due("9 on the way out", () -> x.was(0, leaves + step), step < 11 ? 10 - step : NONE);
+        }
+        for (int i = 0; i < 11; i++) {
+            int door = i;
+            due("13 through(" + door + ", true)", () -> x.through(door, true), 2);
+            due("13 through(" + door + ", false)", () -> x.through(door, false), 2);
+        }
+        due("8 at(0)", () -> x.at(0), NONE);
+        due("16 entered(false)", () -> x.entered(false), 1);
     }
 
     private static void dueThrough(PersonSeeds x, int on0, int back0, int on1, int back1) {
