@@ -1,14 +1,5 @@
-import java.math.BigInteger;
-import java.util.function.IntSupplier;
-import java.util.function.LongPredicate;
-
 /** Each promise of the document with ordinary inputs, its edges and wrong inputs. */
-public final class PersonSeedsPromises {
-    private static final String ARGUMENT = "throws.IllegalArgumentException";
-    private static final String STATE = "throws.IllegalStateException";
-    private static final int NONE = PersonSeeds.NONE;
-    private static int wrong = 0;
-
+public final class PersonSeedsPromises extends DueAnswers {
     public static void main(String[] args) {
         promise1NewObject();
         promise2Room();
@@ -33,91 +24,7 @@ public final class PersonSeedsPromises {
         distances();
         wrongAsking();
         nothingComesBeforeItsMinute();
-        System.out.println(wrong == 0 ? "all answers are as due" : wrong + " answers are not as due");
-        if (wrong != 0) {
-            System.exit(1);
-        }
-    }
-
-    // ---- what the tests use
-
-    private static String answer(IntSupplier call) {
-        try {
-            return Integer.toString(call.getAsInt());
-        } catch (RuntimeException e) {
-            return "throws." + e.getClass().getSimpleName();
-        }
-    }
-
-    private static void due(String call, IntSupplier asked, String want) {
-        String got = answer(asked);
-        if (!got.equals(want)) {
-            wrong++;
-            System.out.println(call + " answered " + got + ", due is " + want);
-        }
-    }
-
-    private static void due(String call, IntSupplier asked, int want) {
-        due(call, asked, Integer.toString(want));
-    }
-
-    private static final BigInteger WORD = BigInteger.ONE.shiftLeft(64);
-
-    private static BigInteger hex(String digits) {
-        return new BigInteger(digits, 16);
-    }
-
-    /** The document's DRAW with numbers that have no sign and no end, cut at 64 bits. */
-    private static int draw(long seed, int p, int k, int m) {
-        BigInteger z = BigInteger.valueOf(seed).mod(WORD);
-        z = z.add(hex("9E3779B97F4A7C15").multiply(BigInteger.valueOf(8L * p + k + 1))).mod(WORD);
-        z = z.xor(z.shiftRight(30)).multiply(hex("BF58476D1CE4E5B9")).mod(WORD);
-        z = z.xor(z.shiftRight(27)).multiply(hex("94D049BB133111EB")).mod(WORD);
-        z = z.xor(z.shiftRight(31));
-        return z.shiftRight(1).mod(BigInteger.valueOf(m)).intValue();
-    }
-
-    private static int desk(long seed, int p, int rooms) {
-        return draw(seed, p, 0, rooms);
-    }
-
-    private static int eatsIn(long seed, int p, int rooms) {
-        return draw(seed, p, 3, rooms);
-    }
-
-    private static int eatsFrom(long seed, int p, int comes) {
-        return comes + 30 + draw(seed, p, 1, 90);
-    }
-
-    private static int eatsUntil(long seed, int p, int comes) {
-        return eatsFrom(seed, p, comes) + 20 + draw(seed, p, 2, 20);
-    }
-
-    private static int leaves(long seed, int p, int comes) {
-        return comes + 200 + draw(seed, p, 4, 200);
-    }
-
-    private static long seedWith(LongPredicate wanted) {
-        for (long seed = 1; seed < 1000000; seed++) {
-            if (wanted.test(seed)) {
-                return seed;
-            }
-        }
-        throw new IllegalStateException("no seed for this test");
-    }
-
-    private static PersonSeeds house(long seed, int... cells) {
-        PersonSeeds x = new PersonSeeds(seed);
-        for (int c : cells) {
-            x.room(c);
-        }
-        return x;
-    }
-
-    private static void runTo(PersonSeeds x, int from, int to) {
-        for (int left = to - from; left > 0; left -= 500) {
-            x.run(Math.min(left, 500));
-        }
+        end();
     }
 
     // ---- the promises
