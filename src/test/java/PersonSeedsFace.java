@@ -1,4 +1,3 @@
-import java.lang.reflect.Constructor;
 import java.lang.reflect.Field;
 import java.lang.reflect.Member;
 import java.lang.reflect.Method;
@@ -11,23 +10,23 @@ import java.util.stream.Collectors;
 /** The class shows the document's face, and nothing else of it can be seen from outside. */
 public final class PersonSeedsFace {
     private static final String[] FACE = {
-        "NONE int",
-        "PersonSeeds(long)",
-        "room(int) int IllegalArgumentException IllegalStateException",
-        "door(int, int, int) int IllegalArgumentException IllegalStateException",
-        "arrives(int, int) int IllegalArgumentException IllegalStateException",
-        "draw(int, int, int) int IllegalArgumentException",
-        "run(int) int IllegalArgumentException IllegalStateException",
-        "person(int, int) int IllegalArgumentException",
-        "at(int) int IllegalArgumentException",
-        "was(int, int) int IllegalArgumentException",
-        "waited(int) int IllegalArgumentException",
-        "in(int, int) int IllegalArgumentException",
-        "inThen(int, int) int IllegalArgumentException",
-        "through(int, boolean) int IllegalArgumentException",
-        "distance(int, int) int IllegalArgumentException",
-        "met(int, int) int IllegalArgumentException",
-        "entered(boolean) int",
+        "public static final int NONE",
+        "public PersonSeeds(long)",
+        "public int room(int) throws IllegalArgumentException,IllegalStateException",
+        "public int door(int,int,int) throws IllegalArgumentException,IllegalStateException",
+        "public int arrives(int,int) throws IllegalArgumentException,IllegalStateException",
+        "public int draw(int,int,int) throws IllegalArgumentException",
+        "public int run(int) throws IllegalArgumentException,IllegalStateException",
+        "public int person(int,int) throws IllegalArgumentException",
+        "public int at(int) throws IllegalArgumentException",
+        "public int was(int,int) throws IllegalArgumentException",
+        "public int waited(int) throws IllegalArgumentException",
+        "public int in(int,int) throws IllegalArgumentException",
+        "public int inThen(int,int) throws IllegalArgumentException",
+        "public int through(int,boolean) throws IllegalArgumentException",
+        "public int distance(int,int) throws IllegalArgumentException",
+        "public int met(int,int) throws IllegalArgumentException",
+        "public int entered(boolean)",
     };
     private static int wrong = 0;
 
@@ -35,21 +34,9 @@ public final class PersonSeedsFace {
         Class<?> face = PersonSeeds.class;
         Set<String> due = new TreeSet<>(Arrays.asList(FACE));
         Set<String> seen = new TreeSet<>();
-        for (Field f : face.getDeclaredFields()) {
-            if (isSeen(f)) {
-                seen.add(f.getName() + " " + f.getType().getSimpleName());
-            }
-        }
-        for (Constructor<?> c : face.getDeclaredConstructors()) {
-            if (isSeen(c)) {
-                seen.add(c.getName() + names(c.getParameterTypes()));
-            }
-        }
-        for (Method m : face.getDeclaredMethods()) {
-            if (isSeen(m)) {
-                seen.add(told(m));
-            }
-        }
+        addSeen(seen, face.getDeclaredFields());
+        addSeen(seen, face.getDeclaredConstructors());
+        addSeen(seen, face.getDeclaredMethods());
         tell("the class is public and final", face.getModifiers() == (Modifier.PUBLIC | Modifier.FINAL));
         for (String line : due) {
             tell("the face has " + line, seen.contains(line));
@@ -60,7 +47,8 @@ public final class PersonSeedsFace {
         checkMembers(face);
         for (Class<?> inside : face.getDeclaredClasses()) {
             tell(inside + " is static", Modifier.isStatic(inside.getModifiers()));
-            tell(inside + " is not public", !Modifier.isPublic(inside.getModifiers()));
+            tell(inside + " is private or package-visible",
+                (inside.getModifiers() & (Modifier.PUBLIC | Modifier.PROTECTED)) == 0);
             checkMembers(inside);
         }
         System.out.println(wrong == 0 ? "the face is as due" : wrong + " faults of the face");
@@ -81,21 +69,13 @@ public final class PersonSeedsFace {
         }
     }
 
-    private static boolean isSeen(Member m) {
-        return !Modifier.isPrivate(m.getModifiers());
-    }
-
-    private static String names(Class<?>[] types) {
-        return Arrays.stream(types).map(Class::getSimpleName).collect(Collectors.joining(", ", "(", ")"));
-    }
-
-    private static String told(Method m) {
-        StringBuilder text = new StringBuilder(m.getName()).append(names(m.getParameterTypes()));
-        text.append(' ').append(m.getReturnType().getSimpleName());
-        for (Class<?> e : m.getExceptionTypes()) {
-            text.append(' ').append(e.getSimpleName());
+    /** Each with its modifiers: a test of the same package could call what is not public too. */
+    private static void addSeen(Set<String> seen, Member[] members) {
+        for (Member m : members) {
+            if (!Modifier.isPrivate(m.getModifiers())) {
+                seen.add(m.toString().replace("PersonSeeds.", "").replace("java.lang.", ""));
+            }
         }
-        return text.toString();
     }
 
     private static void tell(String what, boolean holds) {
